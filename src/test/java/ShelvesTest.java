@@ -170,6 +170,9 @@ public final class ShelvesTest {
         C.due("to below 0", x.copy(0, 0, 1, -1, 1), -13);
         C.due("too many from", x.copy(1, 0, 0, 0, 4), -13);
         C.due("too many to", x.copy(0, 0, 1, 0, 4), -13);
+        C.due("one too many from a later place", x.copy(0, 3, 1, 0, 3), -13);
+        C.due("one too many to a later place", x.copy(0, 0, 1, 2, 2), -13);
+        C.due("to the very end", x.copy(0, 3, 1, 1, 2), 2);
         C.due("far too many", x.copy(0, 1, 1, 1, Integer.MAX_VALUE), -13);
         C.due("places that wrap", x.copy(0, Integer.MAX_VALUE, 1, 0, 1), -13);
         C.due("copy(8, ..)", x.copy(8, 0, 1, 0, 1), -1);
