@@ -3,7 +3,7 @@ import java.util.List;
 import java.util.Random;
 
 /** Long runs of calls that change a wall, each answer beside that of a plain model: a list of KINDS and FIGURES. */
-public final class RunsTest {
+public final class WallsModelTest {
     private static final Checks C = new Checks();
 
     private final Random random;
@@ -13,13 +13,13 @@ public final class RunsTest {
     private List<int[]> imageDawns = null;
     private int imageWeek = 0;
 
-    private RunsTest(int seed) {
+    private WallsModelTest(int seed) {
         random = new Random(seed);
     }
 
     public static void main(String[] args) {
         for (int seed = 0; seed < 400; seed++) {
-            new RunsTest(seed).run();
+            new WallsModelTest(seed).run();
         }
         C.end();
     }
