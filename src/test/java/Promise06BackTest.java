@@ -40,6 +40,19 @@ public final class Promise06BackTest {
         c.due("FIGURE of the first", x.dawn(0, 1), 2);
     }
 
+    @Says("The latest DAWN is none: how many are left.")
+    static void allElseStaysWhenTheLastIsGone(Checks c) {
+        StrokesOnWall x = Checks.walled("d67;k5;");
+        x.image();
+        Checks.row(x, 2, 2, 7, 8);
+        c.due("back()", x.back(), 0);
+        c.due("WEEK", x.count(3), 5);
+        c.dueText("SHELF 2", Checks.elements(x, 2), "7 8 IllegalStateException");
+        c.due("comes(1)", x.comes(1), -11);
+        c.due("restore()", x.restore(), 1);
+        c.due("FIGURE", x.dawn(0, 1), 7);
+    }
+
     @Says("DAY k is that of DAWN k")
     static void theNextDawnTakesItsPlace(Checks c) {
         StrokesOnWall x = Checks.walled("t8;");
